@@ -24,6 +24,7 @@ public final class ObjectLinker {
     private static final int SIGNATURES = 10;
     private static final int MEMORY_BYTES = 1024;
     private static final int FIRST_ADDRESS = 16;
+    private static final long LEAST = 1L << 63;
 
     private static final int KIND_FUNCTION = 0;
     private static final int KIND_DATA = 1;
@@ -1267,7 +1268,7 @@ public final class ObjectLinker {
         }
 
         private void divide(int word, long lower, long upper) {
-            if (upper == 0 || word == Word.DIV && lower == Long.MIN_VALUE && upper == -1) {
+            if (upper == 0 || word == Word.DIV && lower == LEAST && upper == -1) {
                 end = END_DIVISION;
             } else {
                 push(word == Word.DIV ? lower / upper : lower % upper);

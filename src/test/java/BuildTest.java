@@ -126,6 +126,12 @@ public final class BuildTest {
         x.run(0, 0, 0, 0, 0);
         Check.same("filled with 0", x.memory(17), 0);
         Check.same("filled no farther than 8", x.memory(24), 255);
+        x.fill(0, 1, 2, -1);
+        x.link();
+        x.run(0, 0, 0, 0, 0);
+        for (int i = 1; i < 12; i++) {
+            Check.same("byte " + i + " of 8 from 2 on", x.memory(26 + i), i >= 2 && i < 10 ? 255 : 0);
+        }
     }
 
     private static void symbols() {

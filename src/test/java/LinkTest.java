@@ -80,16 +80,16 @@ public final class LinkTest {
 
     private static void kinds() {
         ObjectLinker x = furnished(3);
-        x.symbol(0, 5, W.DATA, W.LOCAL, 0, 0);
-        x.symbol(1, 5, W.FUNCTION, W.WEAK, W.NONE, 0);
-        x.symbol(2, 5, W.DATA, W.LOCAL, 0, 0);
+        x.symbol(0, 0, W.DATA, W.LOCAL, 0, 0);
+        x.symbol(1, 0, W.FUNCTION, W.WEAK, W.NONE, 0);
+        x.symbol(2, 0, W.DATA, W.LOCAL, 0, 0);
         x.symbol(2, 6, W.DATA, W.WEAK, W.NONE, 0);
         W.linked("local ones have any kind", x);
-        x.symbol(2, 5, W.DATA, W.STRONG, 0, 0);
+        x.symbol(2, 0, W.DATA, W.STRONG, 0, 0);
         W.faulty("the first one tells, even if it defines nothing", x, KIND, 202);
-        x.symbol(1, 5, W.DATA, W.WEAK, W.NONE, 0);
+        x.symbol(1, 0, W.DATA, W.WEAK, W.NONE, 0);
         W.faulty("the first of two", x, KIND, 101);
-        x.symbol(0, 5, W.DATA, W.WEAK, W.NONE, 0);
+        x.symbol(0, 0, W.DATA, W.WEAK, W.NONE, 0);
         W.faulty("another first one", x, KIND, 100);
     }
 

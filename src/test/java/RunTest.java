@@ -201,6 +201,9 @@ public final class RunTest {
         ObjectLinker y = linked(1, 1, 0, W.LOOP, 1, W.CONST, 3, W.CONST, 4, W.GET, 0, W.CONST, 1, W.SUB, 0, W.SET, 0,
                 W.GET, 0, W.BRIF, 0, W.ADD, 0, W.END, 0);
         due("a loop drops what came in it", y, 100, 0, 0, 7, 1 + 100 * 8 + 2);
+        ObjectLinker z = linked(1, 1, 0, W.CONST, 50, W.LOOP, 1, W.CONST, 3, W.GET, 0, W.CONST, 1, W.SUB, 0, W.SET, 0,
+                W.GET, 0, W.BRIF, 0, W.END, 0, W.SUB, 0);
+        due("a loop leaves what is below it", z, 5, 0, 0, 47, 2 + 5 * 7 + 2);
     }
 
     private static void calls() {
@@ -223,6 +226,7 @@ public final class RunTest {
         W.linked("a call of itself", y);
         due("a call of itself", y, 3, 0, 0, 0, 3 * 8 + 2);
         Check.same("functions one in the other", y.told(2), 4);
+        jumpsInCalls();
         ObjectLinker z = W.objects(1);
         W.function(z, 0, 0, 0, 0, W.CALL, 0);
         z.function(0, 0, 0, 0);
@@ -230,6 +234,17 @@ public final class RunTest {
         W.linked("a call of an empty function", z);
         Check.same("with fuel for the call alone", z.run(0, 0, 0, 0, 1), 0);
         Check.same("two functions", z.told(2), 2);
+    }
+
+    /** A jump drops what came in its own function's block, and nothing of the functions around it. */
+    private static void jumpsInCalls() {
+        ObjectLinker x = W.objects(1);
+        W.function(x, 0, 2, 1, 1, W.CONST, 300, W.GET, 0, W.GET, 1, W.CALL, 0, W.SUB, 0);
+        W.function(x, 0, 2, 1, 1, W.CONST, 40, W.BLOCK, 1, W.CONST, 1, W.CONST, 2, W.CONST, 5, W.BR, 0, W.END, 0,
+                W.SUB, 0, W.GET, 0, W.ADD, 0, W.GET, 1, W.SUB, 0);
+        x.symbol(0, 1, W.FUNCTION, W.LOCAL, 1, 0);
+        W.linked("jumps in calls", x);
+        due("jumps in calls", x, 8, 3, 0, 300 - (40 - 5 + 8 - 3), 5 + 11);
     }
 
     private static void depth() {
