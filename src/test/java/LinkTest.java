@@ -118,14 +118,6 @@ public final class LinkTest {
     }
 
     private static void weakOneThatTellsOtherwise() {
-        ObjectLinker x = furnished(2);
-        W.function(x, 0, 0, 1, 0, W.SIZE, 0);
-        x.symbol(0, 1, W.FUNCTION, W.WEAK, 1, 0);
-        x.symbol(0, 1, W.FUNCTION, W.LOCAL, 1, 0);
-        W.function(x, 0, 0, 1, 0, W.CALL, 1);
-        W.function(x, 0, 0, 1, 0, W.SIZE, 0, W.DROP, 0, W.CALL, 0);
-        W.function(x, 1, 0, 1, 0, W.RETURN, 0);
-        W.faulty("code comes first", x, 2, 1100);
         ObjectLinker y = furnished(2);
         W.function(y, 0, 0, 1, 0, W.SIZE, 0);
         y.symbol(0, 1, W.FUNCTION, W.WEAK, 1, 0);
