@@ -22,7 +22,7 @@ public final class BuildTest {
         Check.argument("segment of no object", () -> x.segment(0, 1, 0));
         Check.argument("symbol of no object", () -> x.symbol(0, 0, 0, 0, W.NONE, 0));
         Check.argument("code of no object", () -> x.code(0, 0, 0, 0));
-        Check.argument("fill of no object", () -> fill(x, 0, 0, 0, 0));
+        Check.argument("fill of no object", () -> W.fill(x, 0, 0, 0, 0));
         Check.argument("meant of no object", () -> x.meant(0, 0, 0));
         Check.argument("run of no object", () -> x.run(0, 0, 0, 0, 0));
         Check.state("count", () -> x.count(0));
@@ -106,12 +106,12 @@ public final class BuildTest {
         x.fill(0, 0, 8, -1);
         x.fill(0, 1, 0, 7);
         x.fill(0, 1, 63, 0x1ff);
-        Check.argument("byte 10 of 10", () -> fill(x, 0, 0, 10, 1));
-        Check.argument("byte -1", () -> fill(x, 0, 0, -1, 1));
-        Check.argument("byte 64", () -> fill(x, 0, 1, 64, 1));
-        Check.argument("segment 2", () -> fill(x, 0, 2, 0, 1));
-        Check.argument("segment -1", () -> fill(x, 0, -1, 0, 1));
-        Check.argument("object 1", () -> fill(x, 1, 0, 0, 1));
+        Check.argument("byte 10 of 10", () -> W.fill(x, 0, 0, 10, 1));
+        Check.argument("byte -1", () -> W.fill(x, 0, 0, -1, 1));
+        Check.argument("byte 64", () -> W.fill(x, 0, 1, 64, 1));
+        Check.argument("segment 2", () -> W.fill(x, 0, 2, 0, 1));
+        Check.argument("segment -1", () -> W.fill(x, 0, -1, 0, 1));
+        Check.argument("object 1", () -> W.fill(x, 1, 0, 0, 1));
         W.linked("fills", x);
         x.run(0, 0, 0, 0, 0);
         int[] due = {0, 0x11, 0x22, 0x33, 0x44, 0x55, 0x66, 0x77, 255, 255, 7, 0, 0};
@@ -209,7 +209,7 @@ public final class BuildTest {
         Check.argument("function", () -> x.function(0, 5, 0, 0));
         Check.argument("code", () -> x.code(0, 0, 36, 0));
         Check.argument("segment", () -> x.segment(0, 0, 0));
-        Check.argument("fill", () -> fill(x, 0, 0, 8, -1));
+        Check.argument("fill", () -> W.fill(x, 0, 0, 8, -1));
         Check.argument("symbol", () -> x.symbol(0, 31, 0, 0, W.NONE, 0));
         Check.same("is still linked", x.count(1), 1);
         Check.same("its bytes are the same", W.bytes(x).equals(before) ? 1 : 0, 1);
@@ -241,10 +241,5 @@ public final class BuildTest {
         Check.state("segment", () -> x.segment(0, 1, 0));
         Check.state("symbol", () -> x.symbol(0, 0, 0, 0, W.NONE, 0));
         Check.same("is still linked", x.count(1), 8);
-    }
-
-    private static long fill(ObjectLinker x, int object, int segment, int i, long v) {
-        x.fill(object, segment, i, v);
-        return 0;
     }
 }

@@ -1,3 +1,4 @@
+import java.util.function.IntToLongFunction;
 import java.util.function.LongSupplier;
 
 /** Counts the answers that are not as due. */
@@ -21,6 +22,34 @@ final class Check {
 
     static void state(String what, LongSupplier call) {
         thrown(what, call, IllegalStateException.class);
+    }
+
+    static void text(String what, String got, String due) {
+        asked++;
+        if (!got.equals(due)) {
+            tell(what + " answered\n " + got + "\ndue is\n " + due);
+        }
+    }
+
+    /** The call takes the numbers from least to most, and throws illegal argument for all others. */
+    static void bounds(String what, int least, int most, IntToLongFunction call) {
+        for (int number = least; number <= most; number++) {
+            int taken = number;
+            text(what + " " + number, outcome(() -> call.applyAsLong(taken) * 0), "0");
+        }
+        int[] others = {Integer.MIN_VALUE, Integer.MIN_VALUE + 1, -256, least - 1, most + 1, most + 256, Integer.MAX_VALUE};
+        for (int number : others) {
+            argument(what + " " + number, () -> call.applyAsLong(number));
+        }
+    }
+
+    /** The answer, or the name of what was thrown. */
+    static String outcome(LongSupplier call) {
+        try {
+            return Long.toString(call.getAsLong());
+        } catch (RuntimeException e) {
+            return e.getClass().getSimpleName();
+        }
     }
 
     private static void thrown(String what, LongSupplier call, Class<?> due) {

@@ -33,6 +33,12 @@ final class W {
         }
     }
 
+    /** fill(), as a call that has an answer. */
+    static long fill(ObjectLinker x, int object, int segment, int i, long v) {
+        x.fill(object, segment, i, v);
+        return 0;
+    }
+
     /** A linker with one object that has one function. */
     static ObjectLinker single(int parameters, int results, int locals, int... pairs) {
         ObjectLinker x = objects(1);
