@@ -1057,12 +1057,6 @@ public final class ObjectLinker {
             body.put(missing ? TRAP : Word.OPCODES[word]);
         }
 
-        private void writeTarget(Routine target) {
-            if (target != null) {
-                body.wide(target.number);
-            }
-        }
-
         private void writeRest(Image image, Routine routine, int at) {
             int a = routine.numbers[at];
             switch (routine.words[at]) {
@@ -1096,7 +1090,10 @@ public final class ObjectLinker {
                     body.put(a == 0 ? NOTHING : VALUE);
                     break;
                 case Word.CALL:
-                    writeTarget(routine.targetOf(at));
+                    Routine target = routine.targetOf(at);
+                    if (target != null) {
+                        body.wide(target.number);
+                    }
                     break;
                 case Word.INDIRECT:
                     body.wide(image.typeNumbers[a]);
