@@ -437,6 +437,11 @@ public final class CodeEdgesTest {
         due("behind ELSE's END", W.single(1, 0, 0, W.GET, 0, W.IF, 0, W.BR, 0, W.ELSE, 0, W.BR, 0, W.END, 0, W.DROP, 0), 6);
         due("what END leaves is there", W.single(0, 0, 0, W.BLOCK, 1, W.SIZE, 0, W.BR, 0, W.END, 0, W.DROP, 0), W.NONE);
         due("a block's END within", W.single(0, 0, 0, W.BR, 0, W.BLOCK, 0, W.END, 0, W.DROP, 0, W.DROP, 0), W.NONE);
+        due("the next block", W.single(0, 0, 0, W.BLOCK, 0, W.BR, 0, W.END, 0, W.BLOCK, 0, W.DROP, 0, W.END, 0), 4);
+        ObjectLinker x = W.single(0, 0, 0, W.RETURN, 0, W.DROP, 0);
+        due("a function", x, W.NONE);
+        W.function(x, 0, 0, 0, 0, W.DROP, 0);
+        due("the next function", x, 100);
     }
 
     /** BRIF is not BR: what is behind it must have what it pops. */

@@ -22,6 +22,8 @@ public final class RunEdgesTest {
         theFirstTwoParameters();
         localsAre0AtFirst();
         memoryHasTheSegmentsAtFirst();
+        nothingStaysOfAFaultyLink();
+        nothingStaysOfTheRunBefore();
         aStepIsAWord();
         anyWayToReturn();
         moreThanFuelSteps();
@@ -159,6 +161,33 @@ public final class RunEdgesTest {
         }
         Check.same("the segment stays what it was", x.run(0, 0, 16, 0, 9), RETURNED);
         Check.same("though a run stores into it", x.memory(16), 255);
+    }
+
+    /** What was looked through in vain does not change what is linked later. */
+    private static void nothingStaysOfAFaultyLink() {
+        ObjectLinker x = W.single(0, 1, 0, W.CONST, 100, W.CONST, 30, W.BLOCK, 1, W.CONST, 5);
+        W.faulty("a block that is not closed", x, 2, 4);
+        W.append(x, 0, 0, W.CONST, 2, W.BR, 0, W.END, 0, W.SUB, 0, W.SUB, 0);
+        W.linked("it is closed", x);
+        due("behind a faulty link", x, 0, 0, RETURNED, 72, 8, 1);
+    }
+
+    /** Neither its values nor its functions, however deep it ended. */
+    private static void nothingStaysOfTheRunBefore() {
+        ObjectLinker x = W.single(4, 1, 4);
+        x.symbol(0, 0, W.FUNCTION, W.LOCAL, 0, 0);
+        for (int i = 0; i < 48; i++) {
+            x.code(0, 0, W.GET, 0);
+        }
+        W.append(x, 0, 0, W.CALL, 0, W.RETURN, 0);
+        W.function(x, 0, 2, 1, 1, W.GET, 0, W.GET, 1, W.SUB, 0, W.GET, 2, W.ADD, 0);
+        W.linked("a deep one and another", x);
+        for (int again = 0; again < 5; again++) {
+            due("the deep one", x, 1, 1, DEPTH, 0, 40 * 49, 40);
+            Check.same("the other one", x.run(0, 1, 50, 8, 99), RETURNED);
+            Check.same("its value", x.told(0), 42);
+            Check.same("its functions", x.told(2), 1);
+        }
     }
 
     // Promise 13: steps and fuel
