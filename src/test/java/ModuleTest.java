@@ -28,8 +28,13 @@ public final class ModuleTest {
     private static void body(String what, String bytes, int... pairs) {
         ObjectLinker x = W.single(1, 1, 1, pairs);
         int size = bytes.split(" ").length + 4;
-        due(what, x, HEAD + " 1 6 1 96 1 126 1 126 3 2 1 0 4 4 1 112 0 1 5 3 1 0 1 10 " + (size + 2) + " 1 " + size
-                + " 1 1 126 " + bytes + " 11");
+        String module = HEAD + " 1 6 1 96 1 126 1 126 3 2 1 0 4 4 1 112 0 1 5 3 1 0 1 10 " + (size + 2) + " 1 " + size
+                + " 1 1 126 " + bytes + " 11";
+        due(what, x, module);
+        // None of these words means a symbol, so that it does not matter which there are.
+        x.symbol(0, 0, W.FUNCTION, W.LOCAL, 0, 0);
+        x.symbol(0, 1, W.FUNCTION, W.STRONG, 0, 0);
+        due(what + " beside symbols", x, module);
     }
 
     private static void emptyModule() {

@@ -41,6 +41,7 @@ public final class RunEdgesTest {
         otherParametersOrResults();
         fortyFunctions();
         fortyFunctionsBySlots();
+        fortyFunctionsWithManyValues();
         functionsOneBehindTheOther();
         whichEndBeforeWhich();
         functionsThatAreNotThere();
@@ -509,6 +510,29 @@ public final class RunEdgesTest {
         W.linked("nested by slots", x);
         due("40 functions", x, 39, 0, RETURNED, 0, 39 * 8 + 2, 40);
         due("41 functions", x, 40, 0, DEPTH, 0, 40 * 7, 40);
+    }
+
+    /** A function that has parameters, locals and so many values, and calls itself x times, one in the other. */
+    private static ObjectLinker laden(int values, int behind, int timesBehind) {
+        ObjectLinker x = W.single(4, 1, 4);
+        for (int i = 0; i < values; i++) {
+            x.code(0, 0, W.CONST, 1);
+        }
+        W.append(x, 0, 0, W.GET, 0, W.IF, 1, W.GET, 0, W.CONST, 1, W.SUB, 0, W.GET, 1, W.GET, 1, W.GET, 1, W.CALL, 0,
+                W.ELSE, 0, W.GET, 1, W.END, 0);
+        for (int i = 0; i < timesBehind; i++) {
+            x.code(0, 0, behind, 0);
+        }
+        x.symbol(0, 0, W.FUNCTION, W.LOCAL, 0, 0);
+        W.linked(values + " values", x);
+        return x;
+    }
+
+    /** Forty functions with as many values as 2000 steps can push: each finds its own again. */
+    private static void fortyFunctionsWithManyValues() {
+        due("values that are added", laden(19, W.ADD, 19), 39, -5, RETURNED, -5 + 40 * 19, 39 * 49 + 42, 40);
+        due("values that are dropped", laden(37, W.RETURN, 1), 39, -5, RETURNED, -5, 39 * 49 + 42, 40);
+        due("a function more", laden(37, W.RETURN, 1), 40, -5, DEPTH, 0, 40 * 46, 40);
     }
 
     /** "One in the other": not one behind the other. */
