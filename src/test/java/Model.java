@@ -4,17 +4,10 @@ import java.util.Deque;
 import java.util.List;
 
 /**
- * Runs code that can be linked, as plainly as the document tells it: each block and each call has a stack of
+ * Runs what a PlainLinker linked, as plainly as the document tells it: each block and each call has a stack of
  * its own, and its END is looked for whenever it is needed.
  */
 final class Model {
-    /** A function, with its words and their numbers as pairs. */
-    record Function(int parameters, int results, int locals, int[] pairs) {
-        int words() {
-            return pairs.length / 2;
-        }
-    }
-
     /** How a run ended before it returned. */
     private static final class Ended extends RuntimeException {
         private static final long serialVersionUID = 1;
@@ -26,75 +19,75 @@ final class Model {
         }
     }
 
-    private final List<Function> functions;
-    // Which function a symbol means (NONE: none), and which one is in a slot.
-    private final int[] meant;
-    private final int[] slots;
+    private final PlainLinker linked;
+    private final List<PlainLinker.At> slots;
     private final int fuel;
-    final byte[] memory = new byte[1024];
+    final byte[] memory;
     int steps = 0;
     int deepest = 0;
     long value = 0;
 
-    Model(List<Function> functions, int[] meant, int[] slots, int fuel) {
-        this.functions = functions;
-        this.meant = meant;
-        this.slots = slots;
+    Model(PlainLinker linked, int fuel) {
+        this.linked = linked;
+        this.slots = linked.slots();
+        this.memory = linked.memory();
         this.fuel = fuel;
     }
 
-    int run(int function, long x, long y) {
-        Function first = functions.get(function);
+    int run(PlainLinker.At at, long x, long y) {
+        Program.Function first = linked.function(at);
         long[] given = {x, y, 0, 0};
         Deque<Long> stack = new ArrayDeque<>();
-        for (int i = 0; i < first.parameters; i++) {
+        for (int i = 0; i < first.parameters(); i++) {
             stack.push(given[i]);
         }
         try {
-            call(function, stack, 1);
+            call(at, stack, 1);
         } catch (Ended e) {
             return e.end;
         }
-        value = first.results == 0 ? 0 : stack.pop();
+        value = first.results() == 0 ? 0 : stack.pop();
         return 0;
     }
 
-    private void call(int number, Deque<Long> outside, int depth) {
+    private void call(PlainLinker.At at, Deque<Long> outside, int depth) {
         if (depth > 40) {
             throw new Ended(6);
         }
         deepest = Math.max(deepest, depth);
-        Function function = functions.get(number);
-        long[] locals = new long[function.parameters + function.locals];
-        for (int i = function.parameters - 1; i >= 0; i--) {
+        Program.Function function = linked.function(at);
+        long[] locals = new long[function.parameters() + function.locals()];
+        for (int i = function.parameters() - 1; i >= 0; i--) {
             locals[i] = outside.pop();
         }
-        List<Long> left = new Frame(function, locals, depth).all();
-        if (function.results == 1) {
+        List<Long> left = new Frame(at, locals, depth).all();
+        if (function.results() == 1) {
             outside.push(left.get(left.size() - 1));
         }
     }
 
     /** One call of a function. */
     private final class Frame {
-        final Function function;
+        final int object;
+        final Program.Function function;
         final long[] locals;
         final int depth;
         // What a branch goes with, while it is on its way to its goal.
         List<Long> taken = new ArrayList<>();
 
-        Frame(Function function, long[] locals, int depth) {
-            this.function = function;
+        Frame(PlainLinker.At at, long[] locals, int depth) {
+            this.object = at.object();
+            this.function = linked.function(at);
             this.locals = locals;
             this.depth = depth;
         }
 
         int word(int at) {
-            return function.pairs[2 * at];
+            return function.word(at);
         }
 
         int number(int at) {
-            return function.pairs[2 * at + 1];
+            return function.number(at);
         }
 
         List<Long> all() {
@@ -207,13 +200,15 @@ final class Model {
                 case W.STORE -> store(stack.pop(), stack.pop(), a, 8);
                 case W.STORE1 -> store(stack.pop(), stack.pop(), a, 1);
                 case W.CALL -> {
-                    if (meant[a] == W.NONE) {
+                    PlainLinker.At target = linked.target(named(a));
+                    if (target == null) {
                         throw new Ended(7);
                     }
-                    call(meant[a], stack, depth + 1);
+                    call(target, stack, depth + 1);
                 }
                 case W.INDIRECT -> indirect(stack.pop(), a, stack);
-                case W.SLOT -> stack.push((long) slotOf(meant[a]));
+                case W.ADDRESS -> stack.push((long) linked.address(named(a)));
+                case W.SLOT -> stack.push((long) slots.indexOf(linked.target(named(a))) + 1);
                 case W.SIZE -> stack.push(1024L);
                 case W.BRIF -> { }
                 default -> {
@@ -223,25 +218,20 @@ final class Model {
             }
         }
 
+        private PlainLinker.At named(int symbol) {
+            return new PlainLinker.At(object, symbol);
+        }
+
         private void indirect(long slot, int a, Deque<Long> stack) {
-            if (slot < 1 || slot > slots.length) {
+            if (slot < 1 || slot > slots.size()) {
                 throw new Ended(4);
             }
-            Function target = functions.get(slots[(int) slot - 1]);
-            if (target.parameters != a / 2 || target.results != a % 2) {
+            PlainLinker.At target = slots.get((int) slot - 1);
+            if (linked.function(target).parameters() != a / 2 || linked.function(target).results() != a % 2) {
                 throw new Ended(5);
             }
-            call(slots[(int) slot - 1], stack, depth + 1);
+            call(target, stack, depth + 1);
         }
-    }
-
-    private int slotOf(int function) {
-        for (int i = 0; i < slots.length; i++) {
-            if (function == slots[i]) {
-                return i + 1;
-            }
-        }
-        return 0;
     }
 
     private int addressed(long address, int offset, int width) {
